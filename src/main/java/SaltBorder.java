@@ -839,7 +839,7 @@ public final class SaltBorder {
         }
 
         /** By how much a COUNTRY whose turn it is has more LAND than the other at the end. */
-        int bestMargin(int atBorder, int c, int turns) {
+        private int bestMargin(int atBorder, int c, int turns) {
             if (turns <= 0) {
                 return landOf(c, atBorder) - landOf(1 - c, atBorder);
             }
