@@ -2,7 +2,7 @@ import java.util.Random;
 
 /** All calls, at random (but the same ones each time), against PlainModel. */
 final class ModelTest {
-    private static final int OBJECTS = 1500, CALLS = 512, FACE = 33;
+    private static final int OBJECTS = 1500, CALLS = 512, FACE = 33, MOST_OF_A_STEP = 60;
     private static final int[] FAR = {Integer.MIN_VALUE, Integer.MAX_VALUE, -1000, 1 << 16, 256, -256};
 
     private final Random random;
@@ -27,7 +27,7 @@ final class ModelTest {
         if (random.nextInt(8) != 0) {
             text(false);
         }
-        while (left > 0) {
+        while (left >= MOST_OF_A_STEP) {
             switch (random.nextInt(300)) {
                 case 0: text(false); break;
                 case 1: text(true); break;
