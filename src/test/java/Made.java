@@ -89,12 +89,15 @@ final class Made {
     }
 
     private static void tellReadings(SaltBorder x, StringBuilder all) {
-        for (int left = x.many(5); left > 0; left = x.back(1)) {
+        int left = x.many(5);
+        for (int k = 0; k < 8 && left > 0; k++) {
             all.append(" reading ").append(x.soups());
             for (int g = 0; g < x.many(0); g++) {
                 all.append(' ').append(x.mouths(g)).append(' ').append(x.kinds(g));
             }
+            left = x.back(1);
         }
+        all.append(" left ").append(left);
     }
 
     private static void tellSheet(SaltBorder x, int k, StringBuilder all) {
