@@ -123,5 +123,29 @@ final class FaceTest {
         for (char c : source.toCharArray()) {
             Check.isSo("a sign of 1 to 127", c > 0 && c < 128);
         }
+        library(code);
+        methodsAreShort(source);
+    }
+
+    /** Rule 4: only what stands there. */
+    private static void library(String code) {
+        Set<String> taken = new HashSet<>(Arrays.asList("Arrays.fill", "Arrays.copyOf", "Arrays.copyOfRange",
+                "System.arraycopy", "Integer.bitCount", "Math.max", "Math.min", "Math.abs", "Long.MIN_VALUE"));
+        Matcher used = Pattern.compile("\\b(Arrays|System|Integer|Long|Math|String|List)\\.\\w+").matcher(
+                code.replaceAll("import [^;]+;", ""));
+        while (used.find()) {
+            Check.isSo(used.group() + " stands in rule 4", taken.contains(used.group()));
+        }
+    }
+
+    /** Rule 11: some sixty lines at most. */
+    private static void methodsAreShort(String source) {
+        Matcher method = Pattern.compile("(?ms)^( {4}| {8})[A-Za-z][^;={}]*\\) \\{$.*?^\\1\\}$").matcher(source);
+        int found = 0;
+        while (method.find()) {
+            found++;
+            Check.isSo("short: " + method.group(), method.group().split("\n").length <= 60);
+        }
+        Check.isSo("methods are found: " + found, found > FACE.length);
     }
 }
